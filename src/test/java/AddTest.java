@@ -71,6 +71,19 @@ public final class AddTest {
         Expect.refused("one too many", () -> net.add(1, 1, -1, -1, -1));
         Expect.bad("bad comes before full", () -> net.add(1, 1, MOST_COMMITS, -1, -1));
         Expect.equal("the commits after that", net.count(0), MOST_COMMITS);
-        Expect.equal("the last one's log", net.log(MOST_COMMITS - 1, MOST_COMMITS - 1), 0);
+        answersOverTheWholeRoom(net);
+    }
+
+    private static void answersOverTheWholeRoom(AncestryNet net) {
+        int last = MOST_COMMITS - 1;
+        net.tip(0, last, true);
+        net.tip(1, 0, true);
+        Expect.equal("the full net's counts", Nets.countsOf(net), "2000 1 1 2000 1 1 0");
+        Expect.equal("the last one's log", net.log(last, last), 0);
+        Expect.equal("the bases of the last two", Nets.basesOf(net, last, last - 1), "1998");
+        Expect.equal("the commits sent", net.sent(0, -1), last);
+        Expect.equal("the last one sent", net.sent(0, last - 1), last);
+        Expect.equal("the way back", net.back(last, last), 0);
+        Expect.equal("one more under the last", net.under(last, 0), 2);
     }
 }

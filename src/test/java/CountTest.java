@@ -15,6 +15,7 @@ public final class CountTest {
         Expect.equal("counts after under", Nets.countsOf(net), "6 3 2 4 1 5 0");
         net.add(0, 0, -1, -1, -1);
         Expect.equal("counts after another root", Nets.countsOf(net), "7 3 2 4 2 5 0");
+        Expect.equal("counts of one root", Nets.countsOf(Nets.line(1)), "1 0 0 1 1 0 0");
         Expect.equal("count(7)", net.count(7), -1);
         Expect.equal("count(-1)", net.count(-1), -1);
         Expect.equal("count of the least int", net.count(Integer.MIN_VALUE), -1);
