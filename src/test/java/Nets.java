@@ -56,7 +56,7 @@ final class Nets {
         return text.toString().trim();
     }
 
-    /** All that can be seen of a net; a net of six commits takes some 250 calls. */
+    /** What a net tells of its state; two such looks at six commits stay well below 512 calls. */
     static String allOf(AncestryNet net) {
         StringBuilder text = new StringBuilder(countsOf(net));
         for (int c = 0; c < net.count(0); c++) {
