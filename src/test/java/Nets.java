@@ -15,6 +15,33 @@ final class Nets {
         return net;
     }
 
+    /**
+     * Something of everything: 3 and 4 are no parents, 4 has four parents (0 and 1 twice each), the
+     * holders have 0 and 1 in common, 2 and 3 are sent from holder 0, 4 from holder 1, 3 and 4 have two bases.
+     */
+    static AncestryNet mixed() {
+        AncestryNet net = new AncestryNet();
+        net.add(10, 1, -1, -1, -1);
+        net.add(20, -1, -1, -1, -1);
+        net.add(20, -1, 0, -1, -1);
+        net.add(5, 3, 2, 1, -1);
+        net.add(7, 2, 1, 0, 1);
+        net.under(4, 0);
+        net.tip(0, 3, true);
+        net.tip(0, 1, true);
+        net.tip(1, 4, true);
+        return net;
+    }
+
+    /** As many commits as asked for, none the parent of another. */
+    static AncestryNet roots(int howMany) {
+        AncestryNet net = new AncestryNet();
+        for (int number = 0; number < howMany; number++) {
+            net.add(0, 0, -1, -1, -1);
+        }
+        return net;
+    }
+
     /** As many commits as asked for, each the child of the one before. */
     static AncestryNet line(int length) {
         AncestryNet net = new AncestryNet();
@@ -26,7 +53,8 @@ final class Nets {
 
     static String logOf(AncestryNet net, int c) {
         StringBuilder text = new StringBuilder();
-        for (int i = 0; i < net.log(c, -1); i++) {
+        int length = net.log(c, -1);
+        for (int i = 0; i < length; i++) {
             text.append(net.log(c, i)).append(' ');
         }
         return text.toString().trim();
@@ -34,7 +62,8 @@ final class Nets {
 
     static String basesOf(AncestryNet net, int a, int b) {
         StringBuilder text = new StringBuilder();
-        for (int i = 0; i < net.base(a, b, -1); i++) {
+        int length = net.base(a, b, -1);
+        for (int i = 0; i < length; i++) {
             text.append(net.base(a, b, i)).append(' ');
         }
         return text.toString().trim();
@@ -42,7 +71,8 @@ final class Nets {
 
     static String sentFrom(AncestryNet net, int h) {
         StringBuilder text = new StringBuilder();
-        for (int i = 0; i < net.sent(h, -1); i++) {
+        int length = net.sent(h, -1);
+        for (int i = 0; i < length; i++) {
             text.append(net.sent(h, i)).append(' ');
         }
         return text.toString().trim();
@@ -56,17 +86,30 @@ final class Nets {
         return text.toString().trim();
     }
 
-    /** What a net tells of its state; two such looks at six commits stay well below 512 calls. */
+    static String wayBackOf(AncestryNet net, int c) {
+        StringBuilder text = new StringBuilder();
+        int at = net.back(c, 0);
+        text.append(at);
+        for (int n = 1; net.told(at, 2) > 0; n++) {
+            at = net.back(c, n);
+            text.append(' ').append(at);
+        }
+        return text.toString();
+    }
+
+    /** The answer to every question that is let in; two such looks at six commits stay below 512 calls. */
     static String allOf(AncestryNet net) {
         StringBuilder text = new StringBuilder(countsOf(net));
-        for (int c = 0; c < net.count(0); c++) {
+        int commits = net.count(0);
+        for (int c = 0; c < commits; c++) {
             text.append('\n').append(c).append(':');
             for (int what = 0; what <= 4; what++) {
                 text.append(' ').append(net.told(c, what));
             }
-            text.append(" log ").append(logOf(net, c));
-            if (net.told(c, 2) > 0) {
-                text.append(" first parent ").append(net.back(c, 1));
+            text.append(" log ").append(logOf(net, c)).append(" back ").append(wayBackOf(net, c));
+            for (int other = 0; other < commits; other++) {
+                text.append(" with ").append(other).append(net.reaches(c, other) ? " reached" : " not reached");
+                text.append(" bases ").append(basesOf(net, c, other));
             }
         }
         text.append("\nsent ").append(sentFrom(net, 0)).append(" and ").append(sentFrom(net, 1));
