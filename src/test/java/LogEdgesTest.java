@@ -2,6 +2,7 @@
 public final class LogEdgesTest {
     public static void main(String[] args) {
         placesFromTheFirstToTheLastAreThere();
+        aParentWaitsForAllItsChildren();
         otherPlacesAreNot();
         otherNumbersAreBad();
         badComesBeforeNotThere();
@@ -20,6 +21,20 @@ public final class LogEdgesTest {
         Expect.equal("log(3, 3)", net.log(3, 3), 0);
         Expect.equal("log(4, -1), each parent there twice", net.log(4, -1), 3);
         Expect.equal("log(4, 2), each parent there twice", net.log(4, 2), 0);
+    }
+
+    // "and are a PARENT just of such (REACHABLE ones) as are": the first in THE ORDER is told last, all the same.
+    private static void aParentWaitsForAllItsChildren() {
+        AncestryNet net = new AncestryNet();
+        net.add(Edges.GREATEST, Edges.LEAST, -1, -1, -1);
+        net.add(Edges.LEAST, Edges.GREATEST, 0, -1, -1);
+        net.add(0, 0, 0, 1, 0);
+        net.under(2, 0);
+        net.add(0, 0, 2, -1, -1);
+        Expect.equal("the log of 2", Nets.logOf(net, 2), "2 1 0");
+        Expect.equal("the log of 3", Nets.logOf(net, 3), "3 2 1 0");
+        net.add(Edges.LEAST, Edges.GREATEST, 0, -1, -1);
+        Expect.equal("the log of 3 beside another child", Nets.logOf(net, 3), "3 2 1 0");
     }
 
     // "Not there: java.util.NoSuchElementException." And "so for all": i below -1, too.

@@ -7,6 +7,7 @@ public final class SentEdgesTest {
         theLeastGenerationComesFirst();
         ofEqualGenerationsTheLesserKeyComesFirst();
         ofEqualKeysTheLesserNumberComesFirst();
+        manyComeInOneOrder();
         otherHoldersAreBad();
         badComesBeforeNotThere();
         Expect.end();
@@ -76,6 +77,27 @@ public final class SentEdgesTest {
             net.tip(0, number, true);
         }
         Expect.equal("what is sent", Nets.sentFrom(net, 0), "0 1 2 3 4 5 6");
+    }
+
+    // The same three, of about as many as 512 calls can put in and ask for: 150, with each key three times.
+    private static void manyComeInOneOrder() {
+        AncestryNet net = new AncestryNet();
+        for (int number = 0; number < 150; number++) {
+            net.add(0, keyOf(number), -1, -1, -1);
+            net.tip(0, number, true);
+        }
+        Expect.equal("how many", net.sent(0, -1), 150);
+        int before = net.sent(0, 0);
+        for (int i = 1; i < 150; i++) {
+            int next = net.sent(0, i);
+            boolean inOrder = keyOf(before) < keyOf(next) || keyOf(before) == keyOf(next) && before < next;
+            Expect.equal(before + " before " + next, inOrder, true);
+            before = next;
+        }
+    }
+
+    private static int keyOf(int number) {
+        return number * 37 % 50 - 25;
     }
 
     // "HOLDER h (0, 1)", no other.
