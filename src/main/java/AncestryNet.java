@@ -277,6 +277,8 @@ public final class AncestryNet {
         return queue.take();
     }
 
+    // Of those that aren't told yet the one with the highest number has no untold child. So the
+    // queue is empty only after the last one, and i is below how many there are.
     private int toldAt(int c, int i) {
         countUntoldLinks();
         queue.clear();
