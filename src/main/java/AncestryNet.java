@@ -277,13 +277,13 @@ public final class AncestryNet {
         return queue.take();
     }
 
-    // Of those that aren't told yet the one with the highest number has no untold child. So the
-    // queue is empty only after the last one, and i is below how many there are.
+    // Of those that aren't told yet the one with the highest number has no untold child, so the
+    // queue isn't empty before all are told. The loop looks at it all the same.
     private int toldAt(int c, int i) {
         countUntoldLinks();
         queue.clear();
         queueInTheOrder(c);
-        for (int place = 0; place < i; place++) {
+        for (int place = 0; place < i && queue.size() > 0; place++) {
             tellNext();
         }
         return queue.take();
@@ -373,9 +373,12 @@ public final class AncestryNet {
 
     /**
      * A heap of commits: the least rank is taken first, of equal ones the lesser key, of equal
-     * ones the lesser number. No commit is put into it twice, so it never outgrows its rows.
+     * ones the lesser number. No commit is put into it twice and none is taken that wasn't put, so
+     * it is never too full or too empty; it looks all the same, so that no index depends on callers.
      */
     private static final class Queue {
+        private static final int NOTHING = -1;
+
         private final int[] ranks = new int[MOST_COMMITS];
         private final int[] keys = new int[MOST_COMMITS];
         private final int[] numbers = new int[MOST_COMMITS];
@@ -390,6 +393,9 @@ public final class AncestryNet {
         }
 
         void put(int rank, int key, int number) {
+            if (size >= MOST_COMMITS) {
+                return;
+            }
             ranks[size] = rank;
             keys[size] = key;
             numbers[size] = number;
@@ -398,6 +404,9 @@ public final class AncestryNet {
         }
 
         int take() {
+            if (size <= 0) {
+                return NOTHING;
+            }
             int first = numbers[0];
             size--;
             swap(0, size);

@@ -1,4 +1,5 @@
 import java.io.IOException;
+import java.lang.reflect.Constructor;
 import java.lang.reflect.Field;
 import java.lang.reflect.Method;
 import java.lang.reflect.Modifier;
@@ -31,7 +32,7 @@ public final class LanguageTest {
         classes.addAll(List.of(AncestryNet.class.getDeclaredClasses()));
     }
 
-    public static void main(String[] args) throws IOException {
+    public static void main(String[] args) throws Exception {
         LanguageTest test = new LanguageTest();
         test.rule1TheFaceHasItsNamesForItself();
         test.rule1ClassesInsideAreStaticAndNotPublic();
@@ -40,6 +41,7 @@ public final class LanguageTest {
         test.rule5StaticFieldsAreConstants();
         test.rule6ExceptionsAreThrownByTheirForm();
         test.rule6WordsThatAreRuledOut();
+        test.rule7TheQueueLooksBeforeItTakesOrPuts();
         test.rule11Sizes();
         test.rule12NoCallMakesRows();
         Expect.end();
@@ -104,6 +106,26 @@ public final class LanguageTest {
         for (String word : List.of("finally", "synchronized", "assert", "getMessage", "hashCode")) {
             Expect.equal("the word " + word, found("\\b" + word + "\\b"), Set.of());
         }
+    }
+
+    // "an index is looked at before it is used": no call of the face comes to these two ends.
+    private void rule7TheQueueLooksBeforeItTakesOrPuts() throws ReflectiveOperationException {
+        Class<?> type = Class.forName("AncestryNet$Queue");
+        Constructor<?> constructor = type.getDeclaredConstructor();
+        constructor.setAccessible(true);
+        Object queue = constructor.newInstance();
+        Method put = type.getDeclaredMethod("put", int.class, int.class, int.class);
+        Method take = type.getDeclaredMethod("take");
+        put.setAccessible(true);
+        take.setAccessible(true);
+        Expect.equal("taken from an empty queue", take.invoke(queue), -1);
+        for (int number = 0; number <= 2000; number++) {
+            put.invoke(queue, 0, 0, number);
+        }
+        for (int number = 0; number < 2000; number++) {
+            Expect.equal("taken from a full queue", take.invoke(queue), number);
+        }
+        Expect.equal("taken after the last", take.invoke(queue), -1);
     }
 
     // "at most seven parameters", "some sixty lines", "some twelve classes", "some twenty fields beside its constants"
